@@ -343,7 +343,7 @@ public final class FixedKinds {
         }
     }
 
-    /** A fraction whose lower part is above 0, or 0 where nobody divides by it. */
+    /** A fraction: once a value is taken, its lower part is above 0. */
     private static final class Fraction {
         private final Whole above;
         private final Whole below;
@@ -559,12 +559,18 @@ public final class FixedKinds {
         }
 
         private void addTimes(Whole other, long factor) {
+            addShifted(other, LIMBS, 0, factor);
+        }
+
+        /** Adds factor times another one of so many limbs, shifted by limbs, and answers the last carry. */
+        private long addShifted(Whole other, int size, int shift, long factor) {
             long carry = 0;
-            for (int i = 0; i < LIMBS; i++) {
-                carry += limbs[i] + other.limbs[i] * factor;
+            for (int i = shift; i >= 0 && i < LIMBS && i <= size + shift; i++) {
+                carry += limbs[i] + other.limb(i - shift) * factor;
                 limbs[i] = carry & LIMB_MASK;
                 carry >>= LIMB_BITS;
             }
+            return carry;
         }
 
         private void multiply(Whole other) {
@@ -602,8 +608,9 @@ public final class FixedKinds {
             }
             for (int shift = size() - size; shift >= 0; shift--) {
                 long digit = guessDigit(divisor, size, shift);
-                if (digit > 0 && takeAway(divisor, size, shift, digit)) {
-                    putBack(divisor, size, shift);
+                if (digit > 0 && addShifted(divisor, size, shift, -digit) < 0) {
+                    // The guess was one too great.
+                    addShifted(divisor, size, shift, 1);
                     digit--;
                 }
                 quotient.limbs[shift] = digit;
@@ -618,26 +625,6 @@ public final class FixedKinds {
             }
             int top = size + shift;
             return ((limb(top) << LIMB_BITS | limb(top - 1)) << LIMB_BITS | limb(top - 2)) / over;
-        }
-
-        /** Takes digit times the shifted divisor away, and tells whether it was too much. */
-        private boolean takeAway(Whole divisor, int size, int shift, long digit) {
-            long carry = 0;
-            for (int i = shift; i < LIMBS && i <= size + shift; i++) {
-                carry += limbs[i] - divisor.limb(i - shift) * digit;
-                limbs[i] = carry & LIMB_MASK;
-                carry >>= LIMB_BITS;
-            }
-            return carry < 0;
-        }
-
-        private void putBack(Whole divisor, int size, int shift) {
-            long carry = 0;
-            for (int i = shift; i < LIMBS && i <= size + shift; i++) {
-                carry += limbs[i] + divisor.limb(i - shift);
-                limbs[i] = carry & LIMB_MASK;
-                carry >>= LIMB_BITS;
-            }
         }
     }
 }

@@ -44,10 +44,20 @@ public final class PromisesTest {
             call.getAsLong();
         } catch (RuntimeException e) {
             got = e.getClass();
+            notByMachine(what, e);
         }
         if (got != want) {
             wrong++;
             System.out.println(what + " threw " + got + ", due is " + want);
+        }
+    }
+
+    // The machine's own exceptions bear these texts.
+    private static void notByMachine(String what, RuntimeException e) {
+        String text = String.valueOf(e.getMessage());
+        if (text.startsWith("Index ") || text.startsWith("/ by")) {
+            wrong++;
+            System.out.println(what + ": the machine threw " + e);
         }
     }
 
@@ -329,7 +339,7 @@ public final class PromisesTest {
         due("7: brought in", x.physical(2, 65536 + 6, 1), 4);
         int[] sides = {-1, 4, Integer.MIN_VALUE, Integer.MAX_VALUE};
         for (int side : sides) {
-            due("7: no side " + side, x.physical(2, 5, side), 0);
+            due("7: no side " + side, x.physical(1, MIN, side), 0);
         }
         due("7: no kind", x.physical(4, 5, 0), 0);
         due("7: no kind 0", x.physical(0, 5, 0), 0);

@@ -179,7 +179,7 @@ public final class Promise2Test {
         Due.is("the 41st", x.kind(8, true, 1, 1, 0), -4);
     }
 
-    @Says("REFUSALS .. answer, the first that fits")
+    @Says("the first that fits")
     private static void promise2OutsideBeforeNoRoom() {
         FixedKinds x = full();
         Due.is("7 bits", x.kind(7, true, 1, 1, 0), -2);

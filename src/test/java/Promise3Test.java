@@ -57,7 +57,7 @@ public final class Promise3Test {
         Due.is("kind 39 does not", x.apply(SUM, 39, 100, 1, 100), 127);
     }
 
-    @Says("REFUSALS .. answer, the first that fits")
+    @Says("the first that fits")
     private static void promise3NoKindBeforeOutside() {
         FixedKinds x = Due.with(8, true, 1, 1, 0);
         Due.is("BEYOND 3 of kind 2", x.rule(2, 3, 0), -1);

@@ -134,6 +134,21 @@ public final class Promise4Test {
         }
     }
 
+    @Says("Something is LOST if the number was not whole before it was rounded")
+    private static void promise4BesideAWholeQuotient() {
+        FixedKinds x = Due.with(64, true, 1, 1, 0);
+        long[] divisors = {3, 0xFFFF, 0x10001, 0x10000FFFFL, 0x1000000FFFFL, (1L << 47) - 1};
+        for (long divisor : divisors) {
+            long whole = 0xFFFF * divisor;
+            String told = " / " + divisor;
+            Due.withLoss(whole - 1 + told, x, x.apply(QUOTIENT, 1, whole - 1, 1, divisor), 0xFFFE);
+            Due.exactly(whole + told, x, x.apply(QUOTIENT, 1, whole, 1, divisor), 0xFFFF);
+            Due.withLoss(whole + 1 + told, x, x.apply(QUOTIENT, 1, whole + 1, 1, divisor), 0xFFFF);
+            Due.withLoss(1 - whole + told, x, x.apply(QUOTIENT, 1, 1 - whole, 1, divisor), -0xFFFE);
+            Due.exactly(-whole + told, x, x.apply(QUOTIENT, 1, -whole, 1, divisor), -0xFFFF);
+        }
+    }
+
     // Kind 1 has halves from 3 on and is 0 at -6, kind 2 is 0 at -5.
     private static FixedKinds forQuotients(int overflow) {
         FixedKinds x = Due.with(8, true, 1, 2, 3);

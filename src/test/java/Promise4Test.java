@@ -149,6 +149,26 @@ public final class Promise4Test {
         }
     }
 
+    private static long nearest(long a, long b) {
+        long rest = a % b;
+        return a / b + (rest > b - rest ? 1 : 0);
+    }
+
+    @Says("2 to the nearest")
+    private static void promise4QuotientsOfWideDivisors() {
+        FixedKinds x = Due.with(64, true, 1, 1, 0);
+        long[] dividends = {0xFFFF00000000L, 0xFFFF0000000000L, 0x7FFF800000000000L, MAX, MAX - 0xFFFF};
+        long[] divisors = {0x10001, 0x1FFFF, 0x10000FFFFL, 0x1FFFFFFFFL, 0x1000000FFFFL, 0x10000FFFFFFFFL};
+        for (long a : dividends) {
+            for (long b : divisors) {
+                x.rule(1, 0, 0);
+                Due.is(a + " / " + b, x.apply(QUOTIENT, 1, a, 1, b), a / b);
+                x.rule(1, 0, 2);
+                Due.is(a + " / " + b + " to the nearest", x.apply(QUOTIENT, 1, a, 1, b), nearest(a, b));
+            }
+        }
+    }
+
     // Kind 1 has halves from 3 on and is 0 at -6, kind 2 is 0 at -5.
     private static FixedKinds forQuotients(int overflow) {
         FixedKinds x = Due.with(8, true, 1, 2, 3);

@@ -8,8 +8,9 @@ import java.util.Random;
 /** Long runs of calls beside a second reading of the document, written with BigInteger. */
 public final class OracleTest {
     private static final int RUNS = 4000;
-    // A text and its characters are the dearest step: it still ends before the 512th call.
-    private static final int CALLS = 460;
+    // What an object is used for; a text and its characters are the step of the most calls.
+    private static final int MOST_CALLS = 512;
+    private static final int MOST_CALLS_OF_A_STEP = 45;
     private static int wrong = 0;
     private static int calls = 0;
 
@@ -369,6 +370,20 @@ public final class OracleTest {
         due("lost after" + told, x.lost(), m.lost);
     }
 
+    /** One of the calls up to the last one that is promised. */
+    private static void lastCall(FixedKinds x, Model m, Source s) {
+        int k = s.number(m.kinds.size());
+        int o = s.number(m.kinds.size());
+        long a = s.raw(m.find(k));
+        long b = s.raw(m.find(o));
+        switch (s.upTo(3)) {
+            case 0 -> makeKind(x, m, s);
+            case 1 -> due("apply " + k + " " + a + ", " + o + " " + b, applied(x, 2, k, a, o, b), m.apply(2, k, a, o, b));
+            case 2 -> due("text " + k + " " + a, x.text(k, a), m.text(k, a));
+            default -> due("at 0", charAt(x, 0), m.at(0));
+        }
+    }
+
     public static void main(String[] args) {
         for (int run = 0; run < RUNS && wrong == 0; run++) {
             Source s = new Source(run);
@@ -379,8 +394,14 @@ public final class OracleTest {
             for (int i = 0; i < ready; i++) {
                 makeKind(x, m, s);
             }
-            while (calls < CALLS) {
+            while (calls <= MOST_CALLS - MOST_CALLS_OF_A_STEP) {
                 oneCall(x, m, s);
+            }
+            while (calls < MOST_CALLS) {
+                lastCall(x, m, s);
+            }
+            if (calls != MOST_CALLS) {
+                due("the calls of run " + run, calls, MOST_CALLS);
             }
         }
         System.out.println("OracleTest: " + (wrong == 0 ? "all answers are as due" : wrong + " answers are not as due"));
